@@ -818,7 +818,8 @@ public final class AquatintHouse {
         private final int[] numbers = new int[MOST_SIDE * MOST_SIDE];
 
         private static int place(int x, int y) {
-            return isWithin(x, 0, MOST_SIDE - 1) && isWithin(y, 0, MOST_SIDE - 1) ? y * MOST_SIDE + x : -1;
+            boolean isInside = x >= 0 && x < MOST_SIDE && y >= 0 && y < MOST_SIDE;
+            return isInside ? y * MOST_SIDE + x : -1;
         }
 
         private int at(int x, int y) {
