@@ -1,18 +1,21 @@
 import java.lang.reflect.InvocationTargetException;
 import java.lang.reflect.Method;
+import java.lang.reflect.Modifier;
 import java.util.ArrayList;
 import java.util.HashMap;
 import java.util.List;
 import java.util.Map;
 
-/** Calls of the house that are written as the document writes them: name(1, 'a', true) = answer. */
+/** Calls of a house that are written as the document writes them: name(1, 'a', true) = answer. */
 final class Calls {
     private static final Map<String, Method> METHODS = new HashMap<>();
 
     static {
-        for (Method method : AquatintHouse.class.getDeclaredMethods()) {
-            if (java.lang.reflect.Modifier.isPublic(method.getModifiers())) {
-                METHODS.put(method.getName(), method);
+        for (Class<?> type : new Class<?>[] {AquatintHouse.class, ModelHouse.class}) {
+            for (Method method : type.getDeclaredMethods()) {
+                if (Modifier.isPublic(method.getModifiers())) {
+                    METHODS.put(type.getName() + " " + method.getName(), method);
+                }
             }
         }
     }
@@ -20,9 +23,29 @@ final class Calls {
     private Calls() {
     }
 
-    /** The answer as a text, with an f behind a float; "throws X" if the call throws X. */
-    static String answer(AquatintHouse house, String call) {
-        Method method = METHODS.get(call.substring(0, call.indexOf('(')).trim());
+    /** A row of calls, each told once: "5 times: a(); b()" is ten. */
+    static List<String> spread(String row) {
+        List<String> calls = new ArrayList<>();
+        if (!row.contains(" times: ")) {
+            calls.add(row);
+            return calls;
+        }
+        String[] parts = row.split(" times: ");
+        for (int i = 0; i < Integer.parseInt(parts[0]); i++) {
+            for (String call : parts[1].split(";")) {
+                calls.add(call.trim());
+            }
+        }
+        return calls;
+    }
+
+    static String name(String call) {
+        return call.substring(0, call.indexOf('(')).trim();
+    }
+
+    /** The answer of a house, or its model, as a text, with an f behind a float; "throws X" if the call throws X. */
+    static String answer(Object house, String call) {
+        Method method = METHODS.get(house.getClass().getName() + " " + name(call));
         if (method == null) {
             throw new IllegalStateException("no such method: " + call);
         }

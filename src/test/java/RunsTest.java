@@ -4,17 +4,21 @@ import java.nio.file.Path;
 import java.nio.file.Paths;
 import java.util.ArrayList;
 import java.util.List;
+import java.util.Set;
 import java.util.stream.Collectors;
 import java.util.stream.Stream;
 
 /**
- * Runs the calls in src/test/runs, a file for each promise. "new" begins a new object, "#" a remark;
- * "5 times: a(); b()" makes calls that must only not throw. Behind a call that throws, the whole house
- * must be as it is without that call.
+ * Runs the calls in src/test/runs: a file for each promise, and one for the bounds of each paragraph of 'Terms'.
+ * "new" begins a new object, "#" a remark; "5 times: a(); b()" makes calls that must only not throw. Behind a call
+ * that throws, the whole house must be as it is without that call; a question changes nothing either.
  */
 final class RunsTest {
     private static final int PROMISES = 44;
     private static final int MOST_CALLS = 512;
+    private static final Set<String> QUESTIONS = Set.of("cell", "pulls", "state", "of", "dark", "colour", "entered",
+        "number", "isCancelled", "isRestrike", "markAt", "isCopy", "mayBe", "bound", "surely", "isSurely", "price",
+        "enteredShare", "meanDepth", "checksum", "isTrue");
     private static final List<String> PROBES = probes();
     private static final List<String> CHANGING_PROBES = changingProbes();
 
@@ -51,23 +55,10 @@ final class RunsTest {
                 runRows(file + " before line " + line, rows);
                 rows.clear();
             } else if (!row.isEmpty()) {
-                addRow(rows, row);
+                rows.addAll(Calls.spread(row));
             }
         }
         runRows(file + " at its end", rows);
-    }
-
-    private static void addRow(List<String> rows, String row) {
-        if (!row.contains(" times: ")) {
-            rows.add(row);
-            return;
-        }
-        String[] parts = row.split(" times: ");
-        for (int i = 0; i < Integer.parseInt(parts[0]); i++) {
-            for (String call : parts[1].split(";")) {
-                rows.add(call.trim());
-            }
-        }
     }
 
     private void runRows(String where, List<String> rows) {
@@ -77,8 +68,13 @@ final class RunsTest {
         AquatintHouse house = new AquatintHouse();
         for (int i = 0; i < rows.size(); i++) {
             String[] parts = rows.get(i).split(" = ");
+            String before = Snapshot.of(house);
             String answer = Calls.answer(house, parts[0]);
             checked++;
+            boolean mayChange = !QUESTIONS.contains(Calls.name(parts[0])) && !answer.startsWith("throws");
+            if (!mayChange && !before.equals(Snapshot.of(house))) {
+                tellWrong(where + ": " + rows.get(i) + " changed the house");
+            }
             if (parts.length < 2 && answer.startsWith("throws")) {
                 tellWrong(where + ": " + parts[0] + " answered " + answer);
             }
