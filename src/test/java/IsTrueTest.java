@@ -83,6 +83,16 @@ final class IsTrueTest {
         house = house();
         set(of(house, "pullList", 1), "state", 0);
         due(house, false, "a state below 1");
+        house = house();
+        set(of(house, "pullList", 4), "state", 2);
+        due(house, false, "a state that falls, of the first plate");
+        house = new AquatintHouse();
+        house.plate('z', 2, 2);
+        pull(house, 0);
+        pull(house, 0);
+        due(house, true, "a house of one plate");
+        set(of(house, "pullList", 0), "state", 2);
+        due(house, false, "a state that falls, of the only plate");
     }
 
     private static int[] numbers(Object owner, String grid) throws ReflectiveOperationException {
