@@ -72,8 +72,8 @@ public final class AquatintHouse {
             throw new UnsupportedOperationException("the plate has a face, or is cancelled");
         }
         int steps = Math.max(Math.abs(toX - x), Math.abs(toY - y));
-        int stepX = Integer.compare(toX, x);
-        int stepY = Integer.compare(toY, y);
+        int stepX = stepTowards(x, toX);
+        int stepY = stepTowards(y, toY);
         for (int i = 0; i <= steps; i++) {
             worked.use(tool, x + i * stepX, y + i * stepY, pressure);
         }
@@ -776,6 +776,13 @@ public final class AquatintHouse {
 
     private static boolean isLine(int columns, int rows) {
         return columns == 0 || rows == 0 || Math.abs(columns) == Math.abs(rows);
+    }
+
+    private static int stepTowards(int from, int to) {
+        if (from == to) {
+            return 0;
+        }
+        return from < to ? 1 : -1;
     }
 
     private static boolean isWithin(int number, int least, int most) {

@@ -101,6 +101,7 @@ final class FaceTest {
             for (Method method : type.getDeclaredMethods()) {
                 holds(Modifier.isPublic(method.getModifiers()) || !names.contains(method.getName()),
                     method + " does not bear the name of a public one");
+                holds(method.getParameterCount() <= 7, method + " takes at most seven parameters");
             }
         }
     }
@@ -108,7 +109,9 @@ final class FaceTest {
     private void checkSource() throws IOException {
         String source = new String(Files.readAllBytes(Paths.get(SOURCE)));
         String[] ruledOut = {"->", "::", "try", "catch", "synchronized", "assert", "record", "package ", "System.",
-            "@", "instanceof", "Object", "\" +", "+ \"", "NaN", "%="};
+            "@", "instanceof", "Object", "\" +", "+ \"", "NaN", "%=",
+            // Of what compare answers only the sign is promised: it is no step along a line.
+            "compare("};
         for (String words : ruledOut) {
             holds(!source.contains(words), "the source has no " + words);
         }
@@ -123,6 +126,24 @@ final class FaceTest {
         }
         int all = source.split("throw ").length - 1;
         holds(proper == all, "each throw has a new exception with a written text");
+        holds(source.chars().allMatch(sign -> sign > 0 && sign < 128), "each sign is 1 to 127");
+        checkLengths(source.split("\n"));
+    }
+
+    private void checkLengths(String[] lines) {
+        int methods = 0;
+        for (int i = 0; i < lines.length; i++) {
+            Matcher head = Pattern.compile("( {4}| {8})(public|private) [^=;]*\\(.*").matcher(lines[i]);
+            if (head.matches()) {
+                int end = i;
+                while (end < lines.length && !lines[end].equals(head.group(1) + "}")) {
+                    end++;
+                }
+                methods++;
+                holds(end < lines.length && end - i < 60, "the method is of some sixty lines:" + lines[i]);
+            }
+        }
+        holds(methods > 100, "the methods were found, and not " + methods + " alone");
     }
 
     private void holds(boolean is, String what) {
